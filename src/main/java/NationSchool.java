@@ -958,15 +958,13 @@ public final class NationSchool {
         }
 
         int nationOf(int person, int known) {
-            int day = people.oath[person];
-            int village = people.village[person];
-            int land = country.landOn(village, Math.min(day, known));
-            return country.nationIfOf(land, country.inForce(day, known), village);
+            return nationUnder(country.inForce(people.oath[person], known), person, known);
         }
 
         int nationUnder(int statute, int person, int known) {
-            int day = Math.min(people.oath[person], known);
-            return country.nationBy(statute, people.village[person], day);
+            int village = people.village[person];
+            int land = country.landOn(village, Math.min(people.oath[person], known));
+            return country.nationIfOf(land, statute, village);
         }
 
         int feesOwed(int person, int day, int known) {
