@@ -102,6 +102,18 @@ public final class BookTest {
     x.entry(0, 1, 1, 1);
     x.entry(1, 1, 1, 1);
     Check.due("not yet", x.joined(0), -1);
+    NationSchool y = books(new int[][] {{1, 1, 1}}, new int[][] {{1, 1, 1}});
+    Check.due("lines, but ahead of any", y.joined(0), -1);
+    y.keep(0);
+    y.entry(0, 1, 1, 1);
+    y.entry(0, 1, 1, 1);
+    y.entry(1, 1, 1, 1);
+    Check.due("join", y.join(), 24);
+    Check.due("joined(1)", y.joined(1), 1);
+    y.back(0);
+    Check.due("no such line", y.joined(1), -1);
+    Check.due("join of fewer", y.join(), 12);
+    Check.due("rivals", y.rivals(), 1);
     Check.due("join", x.join(), 12);
     x.entry(1, 1, 1, 1);
     Check.due("of the latest", x.rivals(), 1);

@@ -8,6 +8,7 @@ public final class CoinTest {
     paying();
     threeHundredTimes();
     feasts();
+    severalLackingCoins();
     evenness();
     mastersByHeads();
     mastersWhoCantBePaid();
@@ -173,6 +174,44 @@ public final class CoinTest {
     Check.due("part(0)", x.part(0), 0);
     Check.due("part(1)", x.part(1), 1);
     Check.due("part(2)", x.part(2), 1);
+  }
+
+  private static void severalLackingCoins() {
+    NationSchool x = fourNations();
+    int[] villages = {0, 1, 2, 3};
+    for (int v : villages) {
+      x.oath(v, 0);
+      x.pay(v, 100);
+    }
+    x.leave(3);
+    // 5 by 1 of 3 each: 1 (rest 2), and two that lack.
+    Check.due("masters(5)", x.masters(5), 395);
+    int[] parts = {2, 2, 1, 0};
+    for (int n = 0; n < 4; n++) {
+      Check.due("part(" + n + ")", x.part(n), parts[n]);
+      Check.due("purse(" + n + ")", x.purse(n), 100 - parts[n]);
+    }
+    x.oath(1, 0);
+    x.oath(3, 0);
+    x.oath(3, 0);
+    x.oath(3, 0);
+    // 5 by 1, 2, 1, 3 of 7: 0 (rest 5), 1 (rest 3), 0 (rest 5), 2 (rest 1).
+    Check.due("masters(5)", x.masters(5), 390);
+    int[] then = {1, 1, 1, 2};
+    for (int n = 0; n < 4; n++) {
+      Check.due("part(" + n + ")", x.part(n), then[n]);
+    }
+    // 1 by 1, 2, 1, 3 of 7: nation 3's rest is the greatest.
+    x.masters(1);
+    Check.due("part(3)", x.part(3), 1);
+    x.leave(4 + 1);
+    x.leave(6);
+    x.leave(7);
+    // 1 by 1, 2, 1 of 4.
+    x.masters(1);
+    Check.due("part(1)", x.part(1), 1);
+    x.feast(0, x.purse(0));
+    Check.due("purse 0 has less", x.masters(4), -5);
   }
 
   private static void mastersWhoCantBePaid() {

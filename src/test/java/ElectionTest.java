@@ -7,6 +7,7 @@ public final class ElectionTest {
     voting();
     closingByHeads();
     partsOfAll();
+    justMoreThanHalf();
     closingByNations();
     whoIsThereCounts();
     whatIsToldOfOne();
@@ -15,6 +16,8 @@ public final class ElectionTest {
     swingsByHeads();
     swingsByNations();
     undoing();
+    aLongChain();
+    theFirstStatuteToo();
     voidAsKnown();
     Check.finish();
   }
@@ -120,6 +123,52 @@ public final class ElectionTest {
     Check.due("all but one", z.close(votes(z, "++++++-")), 0);
     NationSchool w = school("part 100;");
     Check.due("more than all", w.close(votes(w, "+++++++")), 0);
+  }
+
+  private static void justMoreThanHalf() {
+    for (String text : new String[] {"", "turn 1;"}) {
+      NationSchool x = new NationSchool();
+      if (!text.isEmpty()) {
+        Check.statute(x, text);
+      }
+      x.village(0, 0, 0);
+      for (int i = 0; i < 79; i++) {
+        x.oath(0, 0);
+      }
+      Check.due("40 of 79", x.close(votes(x, "+".repeat(40) + "-".repeat(39))), 1);
+      Check.due("39 of 79", x.close(votes(x, "+".repeat(39) + "-".repeat(40))), 0);
+      Check.due("swing", x.swing(0), 1);
+    }
+  }
+
+  private static void aLongChain() {
+    NationSchool x = new NationSchool();
+    x.village(0, 0, 0);
+    x.oath(0, 0);
+    for (int i = 0; i < 10; i++) {
+      closed(x, "+");
+      Check.due("passed by " + i, Check.statute(x, "turn 2;", i), i);
+    }
+    closed(x, "-");
+    x.next(1);
+    closed(x, "-");
+    Check.due("all of it", x.undo(0), 12 + 10);
+    Check.due("nothing in force", x.force(3599, 1), -1);
+    Check.due("known the day ahead", x.force(3599, 0), 9);
+    Check.due("void", x.electionOf(11, 7), 1);
+  }
+
+  private static void theFirstStatuteToo() {
+    NationSchool x = new NationSchool();
+    x.village(0, 0, 0);
+    x.oath(0, 0);
+    votes(x, "-");
+    x.next(1);
+    closed(x, "+");
+    Check.due("passed by 1", Check.statute(x, "turn 2;", 1), 0);
+    Check.due("closed by it", x.close(0), 0);
+    Check.due("1, its statute, and 0", x.undo(1), 3);
+    Check.due("void", x.electionOf(0, 7), 1);
   }
 
   private static void closingByNations() {

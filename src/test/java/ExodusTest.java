@@ -70,6 +70,8 @@ public final class ExodusTest {
     Check.due("returns(100)", x.returns(100), -1);
     Check.due("the most", x.exodus(0), 1);
     Check.due("all stay away", school(1, 1).returns(0), -1);
+    Check.due("who wants the most, not the last", school(9, 8, 0).returns(0), 0);
+    Check.due("then the next", school(9, 8, 0).returns(1), 1);
   }
 
   private static void goneOnes() {
@@ -101,7 +103,11 @@ public final class ExodusTest {
     x.leave(3);
     Check.due("gone", x.judge(8), -2);
     Check.due("three stand", x.judge(7), 0);
-    x.worth(3, 0);
+    x.leave(0);
+    Check.due("the first is gone", x.judge(1), -2);
+    Check.due("the first is gone", x.judge(7), -2);
+    x = school(1, 1, 2, 0);
+    x.leave(3);
     Check.due("who is gone would not go", x.judge(7), 0);
   }
 

@@ -1,3 +1,7 @@
+import java.util.ArrayList;
+import java.util.List;
+import java.util.Random;
+
 /** Promises 50, 52 and 53: count, keep, back. */
 public final class ImageTest {
   public static void main(String[] args) {
@@ -6,6 +10,8 @@ public final class ImageTest {
     backToAllThatWasTold();
     whatIsNotKept();
     imagesStandApart();
+    twoBranches();
+    whatWasTakenBackLeavesNothing();
     Check.finish();
   }
 
@@ -147,5 +153,139 @@ public final class ImageTest {
     Check.due("image 0 kept anew", x.count(1), 2);
     Check.due("image 0 kept anew", x.count(0), 1);
     Check.due("image 0 kept anew", x.count(2), 0);
+  }
+
+  /** Much of everything, another much for another seed. */
+  private static void fill(NationSchool x, long seed) {
+    Random random = new Random(seed);
+    for (int i = 0; i < 12; i++) {
+      x.village(random.nextInt(100), random.nextInt(100), random.nextInt(3));
+      x.house(1 + random.nextInt(2), random.nextInt(1000), random.nextInt(1000));
+    }
+    for (int step = 0; step < 8; step++) {
+      Check.statute(x, "nation " + random.nextInt(4) + " if x<" + random.nextInt(100) + ";nation "
+          + random.nextInt(4) + " if land=" + random.nextInt(3) + ";fee 0 " + random.nextInt(50) + ";fee 1 9;turn "
+          + (1 + random.nextInt(4)) + (random.nextBoolean() ? ";vote nations;" : ";part 40;"), step > 0 && random.nextBoolean() ? step - 1 : -1);
+      for (int i = 0; i < 6; i++) {
+        int person = x.oath(random.nextInt(12), random.nextInt(4));
+        x.wish(person, random.nextInt(12));
+        x.wish(person, random.nextInt(12));
+        x.worth(person, random.nextInt(50));
+        x.pay(person, 1 + random.nextInt(500));
+      }
+      x.moved(random.nextInt(12), random.nextInt(3));
+      x.leave(random.nextInt(6 * step + 6));
+      x.next(random.nextInt(90));
+      x.call();
+      for (int person = 0; person < 6 * step + 6; person++) {
+        if (random.nextInt(3) > 0) {
+          x.vote(step, person, random.nextInt(3) > 0);
+        }
+      }
+      x.close(step);
+      x.masters(1 + random.nextInt(50));
+      x.feast(random.nextInt(4), 1 + random.nextInt(20));
+      x.appeal(random.nextInt(12), random.nextInt(1000));
+      x.entry(step % 2, 100 + random.nextInt(4), random.nextInt(3), random.nextInt(3));
+    }
+    x.undo(random.nextInt(8));
+    x.next(5);
+    x.call();
+    x.vote(8, random.nextInt(48), true);
+  }
+
+  /** What many calls answer, none of which changes what is told. */
+  private static List<Integer> answers(NationSchool x) {
+    List<Integer> all = new ArrayList<>();
+    for (int what = 0; what <= 13; what++) {
+      all.add(what == 6 || what == 12 ? 0 : x.count(what));
+    }
+    int today = x.count(0);
+    for (int i = 0; i < 13; i++) {
+      all.addAll(List.of(x.sways(i), x.claims(i, today, today), x.nation(i, today / 2, today), x.rent(i)));
+    }
+    for (int person = 0; person < 49; person++) {
+      for (int what = 0; what < 4; what++) {
+        all.add(x.personOf(person, what));
+      }
+      all.addAll(List.of(x.of(person, today), x.of(person, today / 2), x.fees(person, 3599, today),
+          x.even(person, today), x.even(person, today / 2), x.goes(person, 0), x.goes(person, 1)));
+    }
+    for (int election = 0; election < 10; election++) {
+      for (int what = 0; what < 8; what++) {
+        all.add(x.electionOf(election, what));
+      }
+      all.add(x.swing(election));
+      for (int statute = 0; statute < 9; statute++) {
+        all.add(x.under(election, statute));
+      }
+    }
+    for (int day = 0; day < 3600; day += 7) {
+      all.addAll(List.of(x.rector(day, today), x.force(day, today), x.force(today, day)));
+    }
+    for (int nation = 0; nation < 4; nation++) {
+      all.addAll(List.of(x.purse(nation), x.part(nation), x.turn(nation, today), x.heads(nation, today, today)));
+    }
+    all.addAll(List.of(x.join(), x.rivals(), x.joined(0), x.joined(1), x.joined(2), x.joined(3), x.lodge()));
+    for (int person = 0; person < 49; person++) {
+      all.add(x.lodged(person));
+    }
+    return all;
+  }
+
+  /** What the open ELECTION and the next calls come to: this changes what is told. */
+  private static List<Integer> whatFollows(NationSchool x) {
+    List<Integer> all = new ArrayList<>(List.of(x.call(), x.close(8), x.electionOf(8, 4), x.electionOf(8, 5),
+        x.call(), x.wish(3, 11), x.worth(3, 4), x.moved(2, 2), x.undo(1), x.undo(3), x.oath(11, 3)));
+    all.addAll(answers(x));
+    return all;
+  }
+
+  private static NationSchool fresh(long seed) {
+    NationSchool x = new NationSchool();
+    fill(x, seed);
+    return x;
+  }
+
+  private static void twoBranches() {
+    NationSchool x = new NationSchool();
+    x.keep(0);
+    fill(x, 1);
+    x.keep(1);
+    x.back(0);
+    fill(x, 2);
+    x.keep(2);
+    x.back(1);
+    Check.that("image 1 is as it was", answers(x).equals(answers(fresh(1))));
+    x.back(2);
+    Check.that("image 2 is as it was", answers(x).equals(answers(fresh(2))));
+    Check.that("what follows on image 2", whatFollows(x).equals(whatFollows(fresh(2))));
+    x.back(1);
+    Check.that("what follows on image 1", whatFollows(x).equals(whatFollows(fresh(1))));
+    x.back(0);
+    fill(x, 3);
+    Check.that("a third one", answers(x).equals(answers(fresh(3))));
+    Check.that("what follows on it", whatFollows(x).equals(whatFollows(fresh(3))));
+    Check.that("they differ", !answers(fresh(1)).equals(answers(fresh(2))));
+  }
+
+  private static void whatWasTakenBackLeavesNothing() {
+    NationSchool x = new NationSchool();
+    x.village(0, 0, 0);
+    x.house(1, 1, 1);
+    x.oath(0, 0);
+    x.keep(0);
+    x.oath(0, 0);
+    x.wish(1, 0);
+    x.call();
+    x.vote(0, 0, true);
+    x.vote(0, 1, true);
+    x.close(0);
+    x.back(0);
+    x.oath(0, 0);
+    Check.due("no wish is left", x.wish(1, 0), 1);
+    x.call();
+    Check.due("no vote is left", x.close(0), 0);
+    Check.due("no vote is left", x.electionOf(0, 4), 0);
   }
 }

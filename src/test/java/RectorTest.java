@@ -10,6 +10,7 @@ public final class RectorTest {
     nationsWithoutPersons();
     nextTurns();
     turnsAcrossChanges();
+    turnsThatEndEarly();
     Check.finish();
   }
 
@@ -91,6 +92,19 @@ public final class RectorTest {
     Check.due("the last", x.turn(3, 3599), 3599);
     Check.due("no more", x.turn(0, 3330), -1);
     Check.due("the last of 0", x.turn(0, 3329), 3329);
+  }
+
+  private static void turnsThatEndEarly() {
+    NationSchool x = school("", 1, 0, 2, 3);
+    x.next(95);
+    x.keep(0);
+    Check.statute(x, FOUR + "turn 1;");
+    Check.due("a statute makes it turn 3", x.turn(3, 90), 95);
+    x.back(0);
+    x.leave(0);
+    Check.due("1 left, so it goes to 2", x.turn(2, 90), 95);
+    Check.due("1 had it up to then", x.turn(1, 94), 94);
+    Check.due("and never again", x.turn(1, 95), -1);
   }
 
   private static void turnsAcrossChanges() {

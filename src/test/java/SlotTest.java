@@ -58,6 +58,7 @@ public final class SlotTest {
     Check.due("it has 60", x.write(0, 59, 1), 0);
     Check.due("in its place", x.row(0, 1, 2), 0);
     Check.due("it has 2", x.write(0, 2, 1), -7);
+    x.write(0, 0, 9);
     x.write(0, 1, 3);
     x.row(0, 1, 2);
     Check.that("all 0 again", read(x, 0).equals("0 0 "));

@@ -51,6 +51,9 @@ public final class StatuteTest {
     good("turn 0000000000000000000000000000000000099;");
     good("turn 1;".repeat(16));
     good("turn 1;".repeat(16) + "\n ");
+    good("nation 0 if y=0; nation 1 if x=0;");
+    good("turn 1;" + " ".repeat(593));
+    good(" ".repeat(593) + "turn 1;");
   }
 
   private static void faultsOfTokens() {
@@ -62,6 +65,10 @@ public final class StatuteTest {
     bad("turn;", 1, 4);
     bad("turn five;", 1, 5);
     bad("turns 5;", 1, 0);
+    bad("turnz 5;", 1, 0);
+    bad("turn 5" + " ".repeat(594), 1, 600);
+    bad(" ".repeat(594) + "turn 5", 1, 600);
+    bad(" ".repeat(596) + "turn", 1, 600);
     bad("Turn 5;", 1, 0);
     bad("tuRn 5;", 1, 0);
     bad("turn 5.;", 1, 6);

@@ -90,6 +90,8 @@ public final class VillageTest {
       Check.due(conds, nationOf(x, conds, 0), -1);
     }
     Check.due("near itself", nationOf(x, "near 1 0", 1), 1);
+    x.village(15, 21, 0);
+    Check.due("26 is more than 5 times 5", nationOf(x, "near 2 5", 0), -1);
   }
 
   private static void claimsAndTheFirst() {
