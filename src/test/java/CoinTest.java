@@ -222,8 +222,11 @@ public final class CoinTest {
     x.oath(4, 0);
     Check.due("nobody of a nation", x.masters(1), -5);
     x.oath(0, 0);
-    x.oath(1, 0);
     x.pay(1, 10);
+    x.keep(0);
+    Check.due("one person is enough", x.masters(10), 0);
+    x.back(0);
+    x.oath(1, 0);
     Check.due("one has less", x.masters(20), -5);
     Check.due("nothing was paid", x.purse(0), 10);
     Check.due("no part", x.part(0), 0);

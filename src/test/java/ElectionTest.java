@@ -115,6 +115,10 @@ public final class ElectionTest {
     NationSchool x = school("vote nations; part 66; part 60; vote heads;");
     Check.due("3 of 5", x.close(votes(x, "+++--")), 0);
     Check.due("2 of 3", x.close(votes(x, "++-")), 1);
+    NationSchool v = school("vote nations; vote heads;");
+    Check.due("the last line counts", v.close(votes(v, "+++--")), 1);
+    NationSchool u = school("vote heads; vote nations;");
+    Check.due("the last line counts", u.close(votes(u, "+++--")), 0);
     NationSchool y = school("part 0;");
     Check.due("none for", y.close(votes(y, "-")), 0);
     Check.due("one for", y.close(votes(y, "+------")), 1);

@@ -163,9 +163,10 @@ public final class ImageTest {
       x.house(1 + random.nextInt(2), random.nextInt(1000), random.nextInt(1000));
     }
     for (int step = 0; step < 8; step++) {
-      Check.statute(x, "nation " + random.nextInt(4) + " if x<" + random.nextInt(100) + ";nation "
+      Check.statute(x, "nation " + random.nextInt(4) + " if x<" + random.nextInt(100) + " and y>" + random.nextInt(50) + ";nation "
           + random.nextInt(4) + " if land=" + random.nextInt(3) + ";fee 0 " + random.nextInt(50) + ";fee 1 9;turn "
-          + (1 + random.nextInt(4)) + (random.nextBoolean() ? ";vote nations;" : ";part 40;"), step > 0 && random.nextBoolean() ? step - 1 : -1);
+          + (1 + random.nextInt(4)) + (random.nextBoolean() ? ";vote nations;" : ";part 40;"),
+          step > 0 && random.nextBoolean() ? step - 1 : -1);
       for (int i = 0; i < 6; i++) {
         int person = x.oath(random.nextInt(12), random.nextInt(4));
         x.wish(person, random.nextInt(12));
@@ -186,7 +187,8 @@ public final class ImageTest {
       x.masters(1 + random.nextInt(50));
       x.feast(random.nextInt(4), 1 + random.nextInt(20));
       x.appeal(random.nextInt(12), random.nextInt(1000));
-      x.entry(step % 2, 100 + random.nextInt(4), random.nextInt(3), random.nextInt(3));
+      x.entry(0, 100 + random.nextInt(4), random.nextInt(3), random.nextInt(3));
+      x.entry(1, 100 + random.nextInt(4), random.nextInt(3), random.nextInt(3));
     }
     x.undo(random.nextInt(8));
     x.next(5);
@@ -205,11 +207,14 @@ public final class ImageTest {
       all.addAll(List.of(x.sways(i), x.claims(i, today, today), x.nation(i, today / 2, today), x.rent(i)));
     }
     for (int person = 0; person < 49; person++) {
+      for (int day = 0; day <= today; day += 5) {
+        all.add(x.even(person, day));
+      }
       for (int what = 0; what < 4; what++) {
         all.add(x.personOf(person, what));
       }
       all.addAll(List.of(x.of(person, today), x.of(person, today / 2), x.fees(person, 3599, today),
-          x.even(person, today), x.even(person, today / 2), x.goes(person, 0), x.goes(person, 1)));
+          x.even(person, 3599), x.goes(person, 0), x.goes(person, 1)));
     }
     for (int election = 0; election < 10; election++) {
       for (int what = 0; what < 8; what++) {
@@ -226,7 +231,7 @@ public final class ImageTest {
     for (int nation = 0; nation < 4; nation++) {
       all.addAll(List.of(x.purse(nation), x.part(nation), x.turn(nation, today), x.heads(nation, today, today)));
     }
-    all.addAll(List.of(x.join(), x.rivals(), x.joined(0), x.joined(1), x.joined(2), x.joined(3), x.lodge()));
+    all.addAll(List.of(x.join(), x.rivals(), x.joined(0), x.joined(1), x.joined(2), x.joined(6), x.lodge()));
     for (int person = 0; person < 49; person++) {
       all.add(x.lodged(person));
     }

@@ -6,6 +6,7 @@ public final class VillageTest {
     inForce();
     conds();
     claimsAndTheFirst();
+    sixteenLinesOfThree();
     landsAsKnown();
     sways();
     Check.finish();
@@ -118,6 +119,17 @@ public final class VillageTest {
     Check.due("as known ahead", x.nation(0, 7, 6), 2);
     Check.due("claims as known ahead", x.claims(1, 3599, 6), 12);
     Check.due("claims", x.claims(1, 3599, 7), 2);
+  }
+
+  private static void sixteenLinesOfThree() {
+    NationSchool x = new NationSchool();
+    x.village(10, 10, 1);
+    x.village(10, 15, 1);
+    x.village(10, 16, 1);
+    Check.statute(x, "nation 2 if x=1 and y=1 and x=1;".repeat(15) + "nation 1 if x<99 and y<99 and near 0 5;");
+    Check.due("the last of all holds", x.nation(0, 0, 0), 1);
+    Check.due("the last of all holds", x.claims(1, 0, 0), 2);
+    Check.due("the last of all does not", x.nation(2, 0, 0), -1);
   }
 
   private static void landsAsKnown() {
