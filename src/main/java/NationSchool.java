@@ -479,7 +479,8 @@ public final class NationSchool {
     }
 
     public int lodged(int person) {
-        return isPerson(person) ? lodgedIn[person] : NONE;
+        // By what lodge() found alone: back() may have taken away the PERSON, but not that.
+        return within(person, 0, People.MOST - 1) ? lodgedIn[person] : NONE;
     }
 
     // ---- the EXODUS
@@ -556,7 +557,8 @@ public final class NationSchool {
     }
 
     public int joined(int line) {
-        return within(line, 0, told.books.lines[0] - 1) ? joining.partner[line] : NONE;
+        // By what join() found alone: back() may have taken away the line, but not that.
+        return within(line, 0, Books.MOST - 1) ? joining.partner[line] : NONE;
     }
 
     public int rivals() {

@@ -111,9 +111,14 @@ public final class BookTest {
     Check.due("join", y.join(), 24);
     Check.due("joined(1)", y.joined(1), 1);
     y.back(0);
-    Check.due("no such line", y.joined(1), -1);
+    Check.due("found, though the line is gone", y.joined(1), 1);
+    Check.due("a line that is none last", y.joined(2), -1);
     Check.due("join of fewer", y.join(), 12);
+    Check.due("not by the latest", y.joined(1), -1);
     Check.due("rivals", y.rivals(), 1);
+    y.entry(0, 1, 1, 1);
+    y.entry(1, 1, 1, 1);
+    Check.due("a line behind the latest", y.joined(1), -1);
     Check.due("join", x.join(), 12);
     x.entry(1, 1, 1, 1);
     Check.due("of the latest", x.rivals(), 1);

@@ -5,6 +5,7 @@ public final class HouseTest {
     rents();
     wishes();
     lodging();
+    lodgedStaysThroughBack();
     Check.finish();
   }
 
@@ -95,5 +96,33 @@ public final class HouseTest {
     Check.due("lodge again", x.lodge(), 4);
     Check.due("gone", x.lodged(3), -1);
     Check.due("a room more", x.lodged(4), 1);
+  }
+
+  private static void lodgedStaysThroughBack() {
+    NationSchool x = new NationSchool();
+    x.village(0, 0, 0);
+    x.keep(0);
+    x.house(9, 1, 1);
+    for (int p = 0; p < 80; p++) {
+      x.oath(0, 0);
+    }
+    x.wish(0, 0);
+    x.wish(79, 0);
+    Check.due("lodge", x.lodge(), 2);
+    x.keep(1);
+    x.back(0);
+    Check.due("found, though there is nobody", x.lodged(0), 0);
+    Check.due("without a house", x.lodged(1), -1);
+    Check.due("the last number", x.lodged(79), 0);
+    Check.due("beyond all numbers", x.lodged(80), -1);
+    Check.due("below all numbers", x.lodged(-1), -1);
+    Check.due("far beyond", x.lodged(Integer.MAX_VALUE), -1);
+    Check.due("far below", x.lodged(Integer.MIN_VALUE), -1);
+    Check.due("another person of that number", x.oath(0, 3), 0);
+    Check.due("by the latest lodge", x.lodged(0), 0);
+    Check.due("lodge of nobody's wishes", x.lodge(), 0);
+    Check.due("not by the latest", x.lodged(0), -1);
+    x.back(1);
+    Check.due("an image has not what was found", x.lodged(79), -1);
   }
 }

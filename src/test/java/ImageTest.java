@@ -126,6 +126,10 @@ public final class ImageTest {
     Check.due("lodged", x.lodged(0), 0);
     Check.due("joined", x.joined(0), 0);
     Check.due("rivals", x.rivals(), 1);
+    x.keep(1);
+    x.back(1);
+    Check.due("lodged, by no image", x.lodged(0), 0);
+    Check.due("joined, by no image", x.joined(0), 0);
   }
 
   private static void imagesStandApart() {

@@ -20,7 +20,7 @@ public final class RandomRunsTest {
         "force dd", "claims vdd", "nation vdd", "sways v", "oath vr", "oaths S", "leave p", "personOf pq",
         "of pd", "heads Ndd", "sorted nsd", "fees pdd", "pay po", "feast no", "even pd", "masters o",
         "part n", "call", "vote epb", "close e", "electionOf eQ", "under es", "swing e", "undo e",
-        "rector dd", "turn nd", "house m$$", "appeal h$", "rent h", "wish ph", "lodge", "lodged p",
+        "rector dd", "turn nd", "house m$$", "appeal h$", "rent h", "wish ph", "lodge", "lodged P",
         "worth px", "exodus q", "goes pq", "returns x", "judge B", "entry qy4l", "join", "joined 7",
         "rivals", "count C", "purse n", "keep k", "back k", "row Sw6", "write SiL", "paste SiSi8"};
     for (String one : all) {
@@ -185,6 +185,7 @@ public final class RandomRunsTest {
       case 'l' -> random.nextInt(random.nextBoolean() ? 10 : 3);
       case 'v' -> one(model.count(1));
       case 'p' -> one(model.count(2));
+      case 'P' -> random.nextBoolean() ? one(model.count(2)) : random.nextInt(81);
       case 's' -> one(model.count(3));
       case 'e' -> random.nextInt(3) > 0 ? model.count(4) - 1 : one(model.count(4));
       case 'E' -> random.nextInt(3) > 0 ? model.count(4) - 1 : -1;

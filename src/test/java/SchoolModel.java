@@ -703,7 +703,7 @@ final class SchoolModel {
   }
 
   int lodged(int person) {
-    return has(t.persons, person) ? lodged.getOrDefault(person, NONE) : NONE;
+    return lodged.getOrDefault(person, NONE);
   }
 
   // ---- exodus
@@ -835,7 +835,7 @@ final class SchoolModel {
   }
 
   int joined(int line) {
-    return has(joined, line) && has(t.books.get(0), line) ? joined.get(line) : NONE;
+    return has(joined, line) ? joined.get(line) : NONE;
   }
 
   int rivals() {
