@@ -5,6 +5,8 @@ public final class CoinTest {
   public static void main(String[] args) {
     feesByYears();
     feesAsKnown();
+    eachOwesItsOwn();
+    payingAsKnownToday();
     paying();
     threeHundredTimes();
     feasts();
@@ -61,6 +63,34 @@ public final class CoinTest {
     x.next(400);
     Check.statute(x, "");
     Check.due("a statute without", x.fees(0, 3599, 800), 1014);
+  }
+
+  private static void eachOwesItsOwn() {
+    NationSchool x = fourNations();
+    x.oath(0, 0);
+    x.next(100);
+    x.oath(0, 1);
+    x.pay(0, 3);
+    x.pay(1, 40);
+    Check.due("fees(1), the day ahead of a year", x.fees(1, 459, 100), 10);
+    Check.due("fees(1), a year", x.fees(1, 460, 100), 20);
+    Check.due("even(0)", x.even(0, 100), 3 - 7);
+    Check.due("even(1)", x.even(1, 100), 40 - 10);
+    Check.due("even(0) in a year", x.even(0, 459), 3 - 14);
+    Check.due("even(1) in a year", x.even(1, 459), 40 - 10);
+  }
+
+  /** What is known on DAY 0 of those who took the oath later is that they are of no NATION. */
+  private static void payingAsKnownToday() {
+    NationSchool x = new NationSchool();
+    x.village(0, 0, 0);
+    x.next(10);
+    Check.statute(x, "nation 2;");
+    x.oath(0, 0);
+    Check.due("of nation 2 as known today", x.pay(0, 50), 50);
+    Check.due("purse(2)", x.purse(2), 50);
+    Check.due("masters", x.masters(20), 30);
+    Check.due("part(2)", x.part(2), 20);
   }
 
   private static void paying() {

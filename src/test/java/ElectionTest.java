@@ -18,6 +18,8 @@ public final class ElectionTest {
     undoing();
     aLongChain();
     theFirstStatuteToo();
+    eachByItsOwnStatute();
+    underAsKnownWhenClosed();
     voidAsKnown();
     Check.finish();
   }
@@ -173,6 +175,50 @@ public final class ElectionTest {
     Check.due("closed by it", x.close(0), 0);
     Check.due("1, its statute, and 0", x.undo(1), 3);
     Check.due("void", x.electionOf(0, 7), 1);
+  }
+
+  /** ELECTION 0 by heads, 1 by NATIONS, 2 by heads again, with another part. */
+  private static void eachByItsOwnStatute() {
+    String nations = "nation 0 if land=0; nation 1 if land=1; nation 2 if land=2;";
+    NationSchool x = school("");
+    // Of NATION 0 three for it, of 1 two against, of 2 one against: 3 of 6.
+    closed(x, "+++---");
+    Check.statute(x, nations + "vote nations; part 10;");
+    closed(x, "++++--");
+    Check.statute(x, nations + "part 49;");
+    closed(x, "+++---");
+    int[][] due = {{0, 0, 1, 6}, {0, 1, 1, 4}, {1, 1, 1, 6}};
+    for (int e = 0; e < 3; e++) {
+      for (int what = 0; what < 4; what++) {
+        Check.due("electionOf(" + e + ", " + what + ")", x.electionOf(e, what), due[e][what]);
+      }
+    }
+    Check.due("swing by heads", x.swing(0), 1);
+    // NATION 1 is split: one of it is enough.
+    Check.due("swing by nations", x.swing(1), 1);
+    Check.due("swing by heads, part 49", x.swing(2), 1);
+    closed(x, "++++++");
+    Check.due("6 of 6 by 49", x.swing(3), 4);
+    Check.statute(x, nations + "vote nations; part 10;");
+    closed(x, "------");
+    Check.due("none by nations", x.swing(4), 3);
+    closed(x, "+++++ ");
+    Check.due("two of NATION 0, which is against it then", x.swing(5), 2);
+    Check.due("under the first", x.under(1, 0), 1);
+    Check.due("under the third", x.under(0, 2), 1);
+  }
+
+  private static void underAsKnownWhenClosed() {
+    NationSchool x = school("vote nations;");
+    x.next(5);
+    closed(x, "+");
+    x.call();
+    x.next(5);
+    x.moved(3, 1);
+    x.oath(3, 0);
+    x.vote(1, 7, true);
+    Check.due("of nation 1, by a word of today", x.close(1), 1);
+    Check.due("as known on the day of closing", x.under(1, 0), 1);
   }
 
   private static void closingByNations() {

@@ -44,6 +44,14 @@ public final class HouseTest {
     Check.due("the other house", x.rent(1), 499);
     Check.due("between", x.appeal(1, 7), 7);
     Check.due("above", x.appeal(1, 999), 999);
+    x.house(1, 300, 500);
+    x.house(1, 700, 400);
+    Check.due("half", x.rent(2), 400);
+    Check.due("half", x.rent(3), 550);
+    Check.due("below", x.appeal(2, 1), 300);
+    Check.due("below", x.appeal(3, 1), 400);
+    Check.due("above", x.appeal(2, 999), 500);
+    Check.due("above", x.appeal(3, 999), 700);
   }
 
   private static void wishes() {

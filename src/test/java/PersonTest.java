@@ -4,6 +4,7 @@ public final class PersonTest {
 
   public static void main(String[] args) {
     oaths();
+    eachHasItsOwn();
     leaving();
     nationsOfPersons();
     headsOnDays();
@@ -35,6 +36,25 @@ public final class PersonTest {
       Check.due("personOf", x.personOf(w[0], w[1]), NOTHING);
     }
     Check.due("count(2)", x.count(2), 80);
+  }
+
+  private static void eachHasItsOwn() {
+    NationSchool x = new NationSchool();
+    x.village(1, 1, 1);
+    x.village(2, 2, 2);
+    for (int p = 0; p < 4; p++) {
+      x.oath(p % 2, 3 - p);
+      x.next(5);
+    }
+    x.leave(2);
+    x.next(1);
+    x.leave(1);
+    int[][] due = {{0, 3, 0, -1}, {1, 2, 5, 21}, {0, 1, 10, 20}, {1, 0, 15, -1}};
+    for (int p = 0; p < 4; p++) {
+      for (int what = 0; what < 4; what++) {
+        Check.due("personOf(" + p + ", " + what + ")", x.personOf(p, what), due[p][what]);
+      }
+    }
   }
 
   private static void leaving() {

@@ -11,6 +11,8 @@ public final class RectorTest {
     nextTurns();
     turnsAcrossChanges();
     turnsThatEndEarly();
+    nationsAsKnown();
+    severalChanges();
     Check.finish();
   }
 
@@ -105,6 +107,50 @@ public final class RectorTest {
     Check.due("1 left, so it goes to 2", x.turn(2, 90), 95);
     Check.due("1 had it up to then", x.turn(1, 94), 94);
     Check.due("and never again", x.turn(1, 95), -1);
+  }
+
+  /** A PERSON whose NATION is another one as known since a STATUTE became VOID. */
+  private static void nationsAsKnown() {
+    NationSchool x = school("", 1);
+    x.call();
+    x.vote(0, 0, true);
+    x.close(0);
+    Check.due("passed", Check.statute(x, "nation 2;", 0), 1);
+    x.leave(0);
+    x.oath(1, 0);
+    x.next(20);
+    Check.due("turn of 2", x.turn(2, 5), 5);
+    x.undo(0);
+    Check.due("as known ahead", x.rector(5, 19), 2);
+    Check.due("as known since", x.rector(5, 20), 1);
+    Check.due("as known ahead, of a later day", x.rector(25, 19), 2);
+    Check.due("as known since, of a later day", x.rector(25, 20), 1);
+    Check.due("turn of 1, as known today", x.turn(1, 5), 5);
+    Check.due("turn of 2, as known today", x.turn(2, 5), -1);
+  }
+
+  private static void severalChanges() {
+    NationSchool x = school("turn 99;", 0, 3);
+    x.next(95);
+    Check.statute(x, FOUR + "turn 1;");
+    x.next(105);
+    Check.statute(x, FOUR + "turn 99;");
+    Check.due("between two statutes", x.turn(3, 0), 95);
+    NationSchool y = school("turn 99;");
+    y.next(95);
+    y.oath(1, 0);
+    y.next(25);
+    y.leave(0);
+    y.next(30);
+    y.oath(2, 0);
+    y.oath(3, 0);
+    y.next(10);
+    y.leave(1);
+    Check.due("between two oaths", y.turn(1, 0), 95);
+    Check.due("the second", y.turn(2, 0), 150);
+    Check.due("behind its leaving", y.turn(3, 0), 160);
+    Check.due("behind both", y.turn(3, 155), 160);
+    Check.due("the first is gone", y.turn(1, 120), -1);
   }
 
   private static void turnsAcrossChanges() {

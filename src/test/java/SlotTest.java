@@ -6,6 +6,7 @@ public final class SlotTest {
     widths();
     pasting();
     pastingOntoItself();
+    pastingAmongAll();
     oathsFromARow();
     oathsUpToEighty();
     Check.finish();
@@ -138,6 +139,24 @@ public final class SlotTest {
     write(x, 0, 0, 1, 2, 3, 1, 2);
     Check.due("backwards", x.paste(0, 2, 0, 0, 4), 0);
     Check.that("as they were", read(x, 0).equals("2 3 1 2 1 2 "));
+  }
+
+  private static void pastingAmongAll() {
+    for (int from = 0; from < 4; from++) {
+      for (int to = 0; to < 4; to++) {
+        NationSchool x = school(9);
+        for (int slot = 0; slot < 4; slot++) {
+          x.row(slot, 0, 2 + 2 * slot);
+          write(x, slot, 1 + slot, slot % 4);
+        }
+        int most = 2 + 2 * Math.min(from, to);
+        String call = "paste from " + from + " to " + to;
+        Check.due(call + ", one too many", x.paste(from, 0, to, 0, most + 1), -7);
+        Check.due(call, x.paste(from, 0, to, 0, most), 0);
+        Check.that(call, read(x, to).startsWith((1 + from) + " " + from + " "));
+        Check.that(call + ", they stay", read(x, from).startsWith((1 + from) + " " + from + " "));
+      }
+    }
   }
 
   private static void oathsFromARow() {

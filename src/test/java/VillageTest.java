@@ -119,6 +119,13 @@ public final class VillageTest {
     Check.due("as known ahead", x.nation(0, 7, 6), 2);
     Check.due("claims as known ahead", x.claims(1, 3599, 6), 12);
     Check.due("claims", x.claims(1, 3599, 7), 2);
+    Check.due("claims of the day ahead", x.claims(1, 6, 7), 12);
+    Check.due("claims of the day ahead", x.claims(0, 6, 3599), 5);
+    NationSchool y = new NationSchool();
+    y.village(10, 20, 3);
+    Check.statute(y, "nation 0 if x=20; nation 1 if y=10; nation 2 if y=20; nation 3 if x=10;");
+    Check.due("x is not y", y.claims(0, 0, 0), 12);
+    Check.due("x is not y", y.nation(0, 0, 0), 2);
   }
 
   private static void sixteenLinesOfThree() {
@@ -153,6 +160,8 @@ public final class VillageTest {
     Check.due("later", x.nation(0, 3599, 3599), 2);
     Check.due("claims", x.claims(0, 15, 15), 12);
     Check.due("claims between", x.claims(0, 14, 15), 10);
+    Check.due("claims as known between", x.claims(0, 15, 14), 10);
+    Check.due("claims ahead of all", x.claims(0, 15, 9), 9);
   }
 
   private static void sways() {
