@@ -90,6 +90,13 @@ public final class EdgesOfPromises1To19Test extends EdgeCases {
     due("none of them", x.end(0), 0);
     due("an empty one", x.statute(NONE), 0);
     due("of an empty one", x.end(0), 0);
+    Check.tape(x, "turn 12;");
+    x.end(6);
+    due("a TOKEN cut in two", x.statute(NONE), -4);
+    due("the end's place", x.fault(1), 6);
+    Check.tape(x, "turn");
+    due("what stood there is gone", x.statute(NONE), -4);
+    due("the end's place", x.fault(1), 4);
     promise(3, "NONE, and nothing happens, if it has not so many");
     refused("end(10) of 9", NONE, y -> y.end(10));
     refused("end(600) of 9", NONE, y -> y.end(600));
